@@ -9,6 +9,7 @@ public final class MixBench {
     private static final int MOST_INSTRUCTIONS = 1000;
     private static final int MOST_SPENT = 1000;
     private static final long MARK_FACTOR = 0x9E3779B97F4A7C15L;
+    private static final long LOWEST = 0x8000000000000000L;
 
     private static final int R_D = 1;
     private static final int R_H = 3;
@@ -313,7 +314,7 @@ public final class MixBench {
             specials[R_R] = y;
             return 0;
         }
-        raise(OVERFLOW, y == Long.MIN_VALUE && z == -1);
+        raise(OVERFLOW, y == LOWEST && z == -1);
         long x = Math.floorDiv(y, z);
         specials[R_R] = y - z * x;
         return x;
@@ -527,7 +528,7 @@ public final class MixBench {
         private static final long ONE_IN_EACH_BYTE = 0x0101010101010101L;
 
         private static boolean isAbove(long a, long b) {
-            return a + Long.MIN_VALUE > b + Long.MIN_VALUE;
+            return a + LOWEST > b + LOWEST;
         }
 
         private static long highOfProduct(long a, long b) {
