@@ -1,45 +1,5 @@
 /** Each kind of INSTRUCTION with answers reckoned by hand, and the edges that the document names. */
-public final class InstructionTest {
-    private static final long MIN = Long.MIN_VALUE;
-    private static final long MAX = Long.MAX_VALUE;
-    private static final int HERE = 1024;
-    private static final int R_D = 1;
-    private static final int R_H = 3;
-    private static final int R_M = 5;
-    private static final int R_R = 6;
-    private static final int R_A = 7;
-
-    private static MixBench bench;
-
-    private static void special(int k, long v) {
-        bench.set(250, v);
-        Check.putBytes(bench, 8192, 0xF6, k, 0, 250);
-        Check.due("PUT", bench.go(8192, 1), 0);
-        bench.set(250, 0);
-    }
-
-    /** name X=1, Y=2, Z=3 on a new machine with y and z. */
-    private static String run(String name, long y, long z) {
-        return runOn(new MixBench(), name, y, z);
-    }
-
-    private static String runOn(MixBench m, String name, long y, long z) {
-        bench = m;
-        m.set(2, y);
-        m.set(3, z);
-        m.at(HERE);
-        Check.put(m, name, 1, 2, 3);
-        Check.due(name + ": go", m.go(HERE, 1), 0);
-        return name + " on " + y + ", " + z;
-    }
-
-    private static void is(String name, long y, long z, long x, long events) {
-        String what = run(name, y, z);
-        Check.due(what, bench.get(1), x);
-        Check.due(what + ": rA", bench.get(256 + R_A), events);
-        Check.due(what + ": PC", bench.count(0), HERE + 4);
-    }
-
+public final class InstructionTest extends Trial {
     private static void products() {
         is("MUL", 6, -7, -42, 0);
         is("MUL", MIN, 1, MIN, 0);
