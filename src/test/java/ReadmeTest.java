@@ -1,4 +1,3 @@
-import java.io.IOException;
 import java.lang.reflect.Method;
 import java.lang.reflect.Modifier;
 import java.net.URL;
@@ -12,7 +11,6 @@ import java.util.TreeSet;
 import java.util.function.LongSupplier;
 import java.util.regex.Matcher;
 import java.util.regex.Pattern;
-import javax.tools.ToolProvider;
 
 /**
  * The examples of README.md: each call shown there is made, and answers or throws what is shown
@@ -96,11 +94,11 @@ public final class ReadmeTest {
         Check.due("README.md has examples", examples > 0 ? 1 : 0, 1);
     }
 
-    private static void run(Path place) throws IOException, ReflectiveOperationException {
+    private static void run(Path place) throws Exception {
         Path source = place.resolve(EXAMPLES + ".java");
         Files.writeString(source, "public final class " + EXAMPLES + " {\n" + members + calls + "}\n");
-        int end = ToolProvider.getSystemJavaCompiler().run(null, null, null, "-d", place.toString(),
-            "-classpath", System.getProperty("java.class.path"), source.toString());
+        int end = new ProcessBuilder("javac", "--release", "17", "-encoding", "UTF-8", "-d", place.toString(),
+            "-classpath", System.getProperty("java.class.path"), source.toString()).inheritIO().start().waitFor();
         Check.due("javac of the examples", end, 0);
         if (end == 0) {
             try (URLClassLoader loader = new URLClassLoader(new URL[] {place.toUri().toURL()})) {
@@ -132,7 +130,7 @@ public final class ReadmeTest {
         }
     }
 
-    public static void main(String[] args) throws IOException, ReflectiveOperationException {
+    public static void main(String[] args) throws Exception {
         List<String> lines = Files.readAllLines(README);
         read(lines);
         Path place = Files.createTempDirectory("readme");
